@@ -8,6 +8,7 @@ public final class ChancesTest {
         odds();
         mid();
         lots();
+        lotsEach();
         lotsRefused();
         Due.end("ChancesTest");
     }
@@ -124,6 +125,32 @@ public final class ChancesTest {
         x.undo(0);
         Due.is("36 the greatest seed", x.lots(1, 2147483646) >= 0 ? 1 : 0, 1);
         Due.is("36 asked() stays", x.asked(), 1);
+    }
+
+    /** One BEAR, so that it is always the one: what is done to it, by the first number alone. */
+    private static void lotsEach() {
+        // 237956, 479311, 93143, 527582, 141414, 575853, 189685, 624124: by 8, modulo 8: 0, 1, .. 7.
+        int[] seeds = {44493, 44498, 44490, 44499, 44491, 44500, 44492, 44501};
+        int[] wear = {5, 5, 5, 5, 3, 3, 4, 4};
+        int[] eyes = {2, 2, 2, 2, 2, 2, 1, 2};
+        BearWitness x = Due.court("k03 b2403");
+        for (int what = 0; what < 8; what++) {
+            Due.is("36 by " + what, x.lots(1, seeds[what]), what == 7 ? 0 : what == 6 ? 1 : 2);
+            Due.is("36 by " + what + ": WEAR", x.count(5), wear[what]);
+            Due.is("36 by " + what + ": EYES", x.count(6), eyes[what]);
+            Due.is("36 by " + what + ": the WALL", x.count(3), what == 7 ? 1 : 0);
+            x.undo(0);
+        }
+        int[] stays = {44499, 44492};
+        for (int seed : stays) {
+            x = Due.court("k03 l0903");
+            Due.is("36 it can't be", x.lots(1, seed), 0);
+            Due.is("36 it can't be: a DEED", x.count(2), 1);
+            Due.is("36 it can't be: WEAR", x.count(5), 9);
+            Due.is("36 it can't be: undone", x.undo(0), 1);
+            Due.is("36 it can't be: WEAR, undone", x.count(5), 9);
+            Due.is("36 it can't be: EYES, undone", x.count(6), 0);
+        }
     }
 
     private static void lotsRefused() {

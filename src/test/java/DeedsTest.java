@@ -139,6 +139,14 @@ public final class DeedsTest {
         Due.is("20 on(0)", x.on(0), 0);
         Due.is("20 WEAR at first", x.count(5), 0);
         Due.is("20 undo(1): no DEEDS", x.undo(1), BearWitness.BAD);
+        x.eye(0);
+        x.on(2);
+        x.mend(0);
+        Due.is("20 DEEDS of its own: undo(0)", x.undo(0), 3);
+        Due.is("20 DEEDS of its own: WEAR", x.count(5), 0);
+        Due.is("20 DEEDS of its own: EYES", x.count(6), 2);
+        Due.is("20 DEEDS of its own: the WALL", x.count(3), 0);
+        x.on(0);
         x.press(1);
         Due.is("19 keep(2) anew", x.keep(2), 1);
         Due.finds("20 on(1)", x, 0, x.on(1), 1);

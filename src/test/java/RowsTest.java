@@ -144,6 +144,9 @@ public final class RowsTest {
         Due.row(x, 0, LOW, LOW);
         x.mean(0);
         Due.is("7 of low ints", x.asked(), LOW);
+        Due.row(x, 0, LOW);
+        Due.is("7 of one int", x.mean(0), 1);
+        Due.is("7 of one int, asked()", x.asked(), LOW);
         x.row(1, 0);
         Due.finds("7 NOUGHT", x, 0, x.mean(1), 4);
         Due.finds("7 NOTHING", x, 0, x.mean(2), 1);

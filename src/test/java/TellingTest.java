@@ -87,6 +87,7 @@ public final class TellingTest {
         x = Due.court("k07 l2007 m2806 l2001 m2801");
         callIs(x, 0, 1, 4);
         callIs(x, 1, 1, 1);
+        callIs(Due.court("k01 b2001"), 0, 1, 1);
         Due.is("23 call(5): it can't be", x.call(5), BearWitness.NONE);
         Due.is("23 asked() stays", x.asked(), 1);
         Due.is("23 call(6)", x.call(6), BearWitness.BAD);
@@ -166,6 +167,7 @@ public final class TellingTest {
         Due.is("25 cover(-1)", x.cover(-1), BearWitness.BAD);
         x.turn(2);
         coverIs(x, 12, 1, 8);
+        coverIs(Due.court("k00 b2001 b2002 b2004"), 7, 3, 7);
         x = new BearWitness();
         Due.is("25 no BEARS", x.cover(0), BearWitness.STATE);
         Due.is("25 no BEARS, BAD ahead", x.cover(64), BearWitness.BAD);

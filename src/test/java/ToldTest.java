@@ -132,6 +132,9 @@ public final class ToldTest {
         x.eye(5);
         x.keep(1);
         countsAre("DEEDS", x, 6, 21, 4, 18, 5, 14, 7, 2, 2, 2, 2, 1);
+        x = Due.court("k00 l2000 m2000 r2000 b2000 g2000 p2000");
+        Due.is("40 LOVED ones", x.count(7), 2);
+        Due.is("40 MOTHY ones", x.count(8), 2);
         Due.is("40 count(12)", x.count(12), BearWitness.BAD);
         Due.is("40 count(-1)", x.count(-1), BearWitness.BAD);
     }
