@@ -148,6 +148,14 @@ public final class DeedsTest {
         Due.is("20 DEEDS of its own: the WALL", x.count(3), 0);
         x.on(0);
         x.press(1);
+        x.keep(0);
+        x.undo(0);
+        x.press(0);
+        x.on(0);
+        x.undo(0);
+        x.bear(1, 2);
+        Due.is("20 whose DEED it was", x.asked(), 0);
+        x.press(1);
         Due.is("19 keep(2) anew", x.keep(2), 1);
         Due.finds("20 on(1)", x, 0, x.on(1), 1);
     }

@@ -33,6 +33,11 @@ public final class RowsTest {
         Due.is("2 ints 0", x.asked(), 0);
         Due.is("2 row(0, 3) smaller", x.row(0, 3), 3);
         Due.finds("2 at(0, 3)", x, 0, x.at(0, 3), 2);
+        Due.row(x, 1, 8);
+        x.row(0, 40);
+        x.at(1, 0);
+        Due.is("2 other ROWS stay", x.asked(), 8);
+        x.tear(1);
         Due.is("2 row(-1, 1)", x.row(-1, 1), BearWitness.BAD);
         Due.is("2 row(6, 1)", x.row(6, 1), BearWitness.BAD);
         Due.is("2 row(0, 41)", x.row(0, 41), BearWitness.BAD);

@@ -128,6 +128,8 @@ public final class TellingTest {
         x = Due.court("k01 b2801 b2801 b2801");
         shakeIs(x, 0, 6, 1, 2);
         shakeIs(x, 0, 7, 0, 1, 2);
+        // A RICH one takes three from no WEAR at all.
+        shakeIs(Due.court("k01 r2001"), 0, 1, 0, 0, 0);
         // At WEAR 9 none can be PRESSED: here no row of presses helps.
         x = Due.court("k01 b2901 b2401");
         Due.is("24 none", x.shake(0, 3, 3), BearWitness.NONE);

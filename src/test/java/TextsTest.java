@@ -85,6 +85,8 @@ public final class TextsTest {
         faultIs("k7", 2);
         faultIs("k7xb0000", 2);
         faultIs("k99b0000", 1);
+        faultIs("k0:b0000", 2);
+        faultIs("k:0b0000", 1);
         faultIs("k00x0000", 3);
         faultIs("k00k00", 3);
         faultIs("k00B0000", 3);
