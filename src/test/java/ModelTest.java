@@ -2,8 +2,9 @@ import java.util.Random;
 
 /** Runs of calls by chance, the seeds fixed, on the program and on the Model: all must be alike. */
 public final class ModelTest {
-    private static final int RUNS = 1000;
-    private static final int CALLS = 250;
+    private static final int RUNS = 5000;
+    // An object is good for 512 calls; the dearest step below takes fewer than 90.
+    private static final int CALLS = 512 - 90;
     private static final String NAMES =
         "row lay at tear copy mean text put fault court bear mark press mend eye turn undo keep on "
         + "tells shown call shake cover rivals apart truths sure next kinds walls duel odds mid lots "
@@ -16,6 +17,7 @@ public final class ModelTest {
     private final Random chance;
     private final BearWitness x = new BearWitness();
     private final Model m = new Model();
+    private int used = 0;
 
     private ModelTest(long seed) {
         chance = new Random(seed);
@@ -34,7 +36,7 @@ public final class ModelTest {
 
     private void play(int run) {
         if (run % 10 != 0) newCourt(run, run % 3 == 0 ? 1 + chance.nextInt(6) : 6);
-        for (int c = 0; c < CALLS; c++) {
+        while (used < CALLS) {
             int what = chance.nextInt(CALL.length + 12);
             if (what >= CALL.length + 4) pairs(run);
             else if (what >= CALL.length) handful(run);
@@ -45,6 +47,7 @@ public final class ModelTest {
     }
 
     private void same(int run, String call, long got, long want) {
+        used += 6;
         Due.is("run " + run + ": " + call, got, want);
         Due.is("run " + run + ": asked() behind " + call, x.asked(), m.asked);
         Due.is("run " + run + ": upper() behind " + call, x.upper(), m.upper);
@@ -73,6 +76,7 @@ public final class ModelTest {
         if (chance.nextInt(12) == 0) s.setLength(chance.nextInt(s.length()));
         same(run, "text(0, " + s.length() + ")", x.text(0, s.length()), m.text(0, s.length()));
         for (int i = 0; i < s.length(); i++) {
+            used++;
             Due.is("run " + run + ": put", x.put(0, i, s.charAt(i)), m.put(0, i, s.charAt(i)));
         }
         same(run, "fault(0) of \"" + s + "\"", x.fault(0), m.fault(0));
@@ -92,6 +96,7 @@ public final class ModelTest {
     private void pairs(int run) {
         int pairs = chance.nextInt(9);
         int done = chance.nextInt(64);
+        used += 1 + 2 * pairs;
         x.row(1, 2 * pairs);
         m.row(1, 2 * pairs);
         for (int p = 0; p < pairs && m.n() > 0; p++) {

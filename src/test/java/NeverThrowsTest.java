@@ -8,6 +8,8 @@ public final class NeverThrowsTest {
         Integer.MIN_VALUE, Integer.MIN_VALUE + 1, -41, -7, -1, 0, 1, 5, 6, 7, 13, 31, 32, 33, 41, 63, 64,
         Integer.MAX_VALUE - 1, Integer.MAX_VALUE
     };
+    // An object is good for 512 calls: some 60 for its state, and nine for each round.
+    private static final int ROUNDS = 50;
     private static final String[] COURTS = {
         "", "k63 b0000", "k21 b2015l0060p1021m2631g1763r2015", "k00 r2963 m2563 g0963 l0863"
     };
@@ -44,8 +46,9 @@ public final class NeverThrowsTest {
         int n = call.getParameterCount();
         int rounds = 1;
         for (int d = 0; d < n; d++) rounds *= n > 3 ? 5 : ODD.length;
-        BearWitness x = inState(court);
+        BearWitness x = null;
         for (int round = 0; round < rounds; round++) {
+            if (round % ROUNDS == 0) x = inState(court);
             Object[] with = new Object[n];
             StringBuilder told = new StringBuilder(call.getName());
             int rest = round;
