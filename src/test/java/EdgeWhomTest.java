@@ -3,6 +3,7 @@ public final class EdgeWhomTest {
     private static final int[] NO_THING = {-1, 6, 7, Edge.MIN, Edge.MAX};
 
     public static void main(String[] args) {
+        callFewestFirst();
         callFewestOthers();
         callLeast();
         callNone();
@@ -28,6 +29,15 @@ public final class EdgeWhomTest {
     private static void callIs(String s, int thing, int set) {
         BearWitness x = Due.court(s);
         Edge.tells("23 call(" + thing + ") of \"" + s + "\"", x, () -> x.call(thing), 1, set);
+    }
+
+    // 23 "The fewest BEARS": ahead of all else, though more BEARS show fewest others.
+    private static void callFewestFirst() {
+        callIs("k63 b2063 m2562", 0, 1);
+        callIs("k63 m2562 b2063", 0, 2);
+        callIs("k07 b2007 m2806", 0, 1);
+        callIs("k63 b2063 m2562 m2562", 0, 1);
+        callIs("k63 b2003 m2502 b2001", 0, 4);
     }
 
     // 23 "of these sets the one by which fewest other THINGS are SHOWN": others, not the THING itself.
