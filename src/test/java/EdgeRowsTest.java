@@ -62,6 +62,9 @@ public final class EdgeRowsTest {
         BearWitness x = new BearWitness();
         x.row(3, 40);
         for (int i = 0; i < 40; i++) x.lay(3, i, i + 1);
+        Due.is("2 anew, as great", x.row(3, 40), 40);
+        Edge.rowIs("2 anew, as great", x, 3, new int[40]);
+        for (int i = 0; i < 40; i++) x.lay(3, i, i + 1);
         Due.is("2 anew, smaller", x.row(3, 2), 2);
         Edge.rowIs("2 anew, smaller", x, 3, 0, 0);
         Due.is("2 anew, full", x.row(3, 40), 40);

@@ -44,6 +44,9 @@ public final class EdgeTextsTest {
         Due.is("8 anew, smaller", x.text(1, 2), 2);
         Edge.textIs("8 anew, smaller", x, 1, "  ");
         Due.write(x, 1, "abc");
+        Due.is("8 anew, as great", x.text(1, 3), 3);
+        Edge.textIs("8 anew, as great", x, 1, "   ");
+        Due.write(x, 1, "abc");
         Due.is("8 anew, empty", x.text(1, 0), 0);
         Edge.textIs("8 anew, empty", x, 1, "");
         Due.is("8 anew, greater", x.text(1, 4), 4);

@@ -22,6 +22,7 @@ public final class EdgeToldTest {
         countRefused();
         findingEach();
         findingsNotByOthers();
+        findingStays();
         findingsRefused();
         digestOfNew();
         digestOfFull();
@@ -268,6 +269,23 @@ public final class EdgeToldTest {
             others[d].getAsInt();
             Due.is("41 finding() behind other call " + d, x.finding(), 1);
             for (int f = 1; f <= 5; f++) Due.is("42 findings(" + f + ") behind other call " + d, x.findings(f), f == 1 ? 1 : 0);
+        }
+    }
+
+    // 41 "The latest FINDING": whatever was answered since.
+    private static void findingStays() {
+        BearWitness x = marked();
+        x.tear(4);
+        List<IntSupplier> others = othersOf(x);
+        others.addAll(List.of(
+            () -> x.lay(1, 0, 3), () -> x.at(1, 0), () -> x.mean(1), () -> x.bear(0, 0), () -> x.shown(63), () -> x.call(0),
+            () -> x.cover(63), () -> x.apart(), () -> x.truths(0), () -> x.sure(0)));
+        others.addAll(List.of(
+            () -> x.next(0), () -> x.walls(0), () -> x.duel(0, 1), () -> x.odds(0, 6), () -> x.mid(3), () -> x.undo(0)));
+        for (int d = 0; d < others.size(); d++) {
+            others.get(d).getAsInt();
+            Due.is("41 finding() behind answered call " + d, x.finding(), 1);
+            for (int f = 1; f <= 5; f++) Due.is("42 findings(" + f + ") behind answered call " + d, x.findings(f), f == 1 ? 1 : 0);
         }
     }
 

@@ -7,9 +7,14 @@ import java.util.regex.Pattern;
 /** The rules of LANGUAGE.md that can be seen from the program's text. */
 public final class LanguageTest {
     private static final String[] NEVER = {
-        "throw", "throws", "try", "catch", "synchronized", "assert", "import", "package", "protected",
-        "System\\.(?!arraycopy)", "->", "::", "volatile", "native", "Exact\\b", "Random", "hashCode",
-        "toString", "Object", "Map", "Set", "lambda", "new [A-Z]\\w*\\([^;]*\\) *\\{", "double", "float"
+        // Rule 6, 13, 1, and 4: what is not in the library that it lists.
+        "throw", "throws", "try", "catch", "synchronized", "assert", "volatile", "native", "protected", "package",
+        "System\\.(?!arraycopy)", "\\w+Exact\\b", "Random", "Thread", "hashCode", "Object", "HashMap", "HashSet", "Map", "Set",
+        "import (?!java\\.util\\.(?:ArrayList|List|Arrays|Iterator);)",
+        // Rule 2: no lambda, no method reference, no anonymous class.
+        "[^:]::[^:]", "\\) *->", "= *\\w+ *->", "new [A-Z]\\w*\\([^;]*\\) *\\{",
+        // Rule 5: no other static state.
+        "static \\{", "static (?!final|class|abstract)[\\w\\[\\]<>]+ \\w+ *[=;]"
     };
     private static final Pattern PUBLIC = Pattern.compile("public (?:int|long) (\\w+)\\(");
     private static final Pattern PRIVATE = Pattern.compile("private (?:static )?(?:\\w+(?:\\[\\])?) (\\w+)\\(");
