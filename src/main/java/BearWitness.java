@@ -848,55 +848,62 @@ public final class BearWitness {
         // No byte has this value: at the end no letter and no figure fits.
         private static final int END = 256;
 
-        private int place = 0;
+        // Taken from the TEXT ahead of the reading, which goes deep enough without asking the Shelf.
+        private final Cells bytes = new Cells(TEXT_WIDTH);
         private int size = 0;
+        private int place = 0;
         private int met = NONE;
 
         /** Fills a COURT from a TEXT: NONE, or the FAULT, the COURT being of no use then. */
         private int readInto(Court into, Shelf texts, int t) {
-            place = 0;
-            size = texts.sizeOf(t);
-            met = NONE;
+            open(texts, t);
             into.clear();
-            skipBlanks(texts, t);
-            if (byteHere(texts, t) != 'k') return place;
+            skipBlanks();
+            if (byteHere() != 'k') return place;
             place++;
-            into.done = twoFigures(texts, t);
-            skipBlanks(texts, t);
+            into.done = twoFigures();
+            skipBlanks();
             for (int i = 0; i <= MOST_BEARS && met == NONE && (i == 0 || place < size); i++) {
-                readBear(into, texts, t);
-                skipBlanks(texts, t);
+                readBear(into);
+                skipBlanks();
             }
             return met;
         }
 
-        private void readBear(Court into, Shelf texts, int t) {
-            int kind = into.bears < MOST_BEARS ? kindOfLetter(byteHere(texts, t)) : NONE;
+        private void open(Shelf texts, int t) {
+            size = texts.sizeOf(t);
+            for (int i = 0; i < size; i++) bytes.set(i, texts.get(t, i));
+            place = 0;
+            met = NONE;
+        }
+
+        private void readBear(Court into) {
+            int kind = into.bears < MOST_BEARS ? kindOfLetter(byteHere()) : NONE;
             if (kind == NONE) {
                 fail(place);
                 return;
             }
             place++;
-            int eyes = oneFigure(texts, t, MOST_EYES);
-            int wear = oneFigure(texts, t, MOST_WEAR);
-            int view = twoFigures(texts, t);
+            int eyes = oneFigure(MOST_EYES);
+            int wear = oneFigure(MOST_WEAR);
+            int view = twoFigures();
             if (met == NONE) into.seat(kind, eyes, wear, view);
         }
 
-        private void skipBlanks(Shelf texts, int t) {
-            while (place < size && texts.get(t, place) == BLANK) place++;
+        private void skipBlanks() {
+            while (place < size && bytes.get(place) == BLANK) place++;
         }
 
-        private int byteHere(Shelf texts, int t) {
-            return place < size ? texts.get(t, place) : END;
+        private int byteHere() {
+            return place < size ? bytes.get(place) : END;
         }
 
         private void fail(int where) {
             if (met == NONE) met = where;
         }
 
-        private int oneFigure(Shelf texts, int t, int most) {
-            int value = byteHere(texts, t) - '0';
+        private int oneFigure(int most) {
+            int value = byteHere() - '0';
             if (value < 0 || value > most) {
                 fail(place);
                 return 0;
@@ -905,11 +912,11 @@ public final class BearWitness {
             return value;
         }
 
-        private int twoFigures(Shelf texts, int t) {
+        private int twoFigures() {
             int first = place;
-            int tens = oneFigure(texts, t, 9);
+            int tens = oneFigure(9);
             if (met != NONE) return 0;
-            int value = 10 * tens + oneFigure(texts, t, 9);
+            int value = 10 * tens + oneFigure(9);
             if (value > ALL_THINGS) fail(first);
             return value;
         }
