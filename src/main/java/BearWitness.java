@@ -848,7 +848,7 @@ public final class BearWitness {
         // No byte has this value: at the end no letter and no figure fits.
         private static final int END = 256;
 
-        // Taken from the TEXT ahead of the reading, which goes deep enough without asking the Shelf.
+        // The TEXT's bytes, taken ahead: calls of the reading go deep, and would go too deep by the Shelf.
         private final Cells bytes = new Cells(TEXT_WIDTH);
         private int size = 0;
         private int place = 0;

@@ -82,6 +82,56 @@ final class Edge {
         Due.is(call + ": its size", x.finding(), BEYOND);
     }
 
+    /** All ROWS and all TEXTS are these (null: missing), and there are no BEARS: by promise 43, in one call. */
+    static void holds(String call, BearWitness x, int[][] rows, int[][] texts) {
+        long h = 17;
+        for (int what = 0; what < 12; what++) h = 31 * h + (what == 9 ? there(rows) : what == 10 ? there(texts) : 0);
+        for (int k = 0; k < 3; k++) h = 31 * h - 1;
+        h = fold(fold(h, rows), texts);
+        Due.is(call + ": all ROWS and TEXTS then", x.digest(), h);
+    }
+
+    private static int there(int[][] some) {
+        int sum = 0;
+        for (int[] one : some) sum += one == null ? 0 : 1;
+        return sum;
+    }
+
+    private static long fold(long h, int[][] some) {
+        for (int[] one : some) {
+            h = 31 * h + (one == null ? -1 : one.length);
+            if (one == null) continue;
+            for (int v : one) h = 31 * h + v;
+        }
+        return h;
+    }
+
+    /** Six ROWS of forty ints, none of them 0, and what they are. */
+    static BearWitness fullRows(int[][] rows) {
+        BearWitness x = new BearWitness();
+        for (int r = 0; r < 6; r++) {
+            rows[r] = new int[40];
+            for (int i = 0; i < 40; i++) rows[r][i] = 1000 * (r + 1) + i;
+            Due.row(x, r, rows[r]);
+        }
+        return x;
+    }
+
+    /** Four TEXTS of sixty bytes, none of them a blank, and what they are. */
+    static BearWitness fullTexts(int[][] texts) {
+        BearWitness x = new BearWitness();
+        for (int t = 0; t < 4; t++) {
+            texts[t] = new int[60];
+            x.text(t, 60);
+            for (int i = 0; i < 60; i++) {
+                texts[t][i] = 50 + 17 * t - i;
+                if (texts[t][i] == 32) texts[t][i] = -1;
+                x.put(t, i, texts[t][i]);
+            }
+        }
+        return x;
+    }
+
     /** What bear() tells of one BEAR. */
     static int ofBear(BearWitness x, int i, int what) {
         Due.is("bear(" + i + ", " + what + ")", x.bear(i, what), 1);

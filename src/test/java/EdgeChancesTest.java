@@ -90,6 +90,15 @@ public final class EdgeChancesTest {
             duelIs("k00 m2901", 0, n, 0);
             duelIs("k01 b2601", 0, n, 1);
         }
+        // One of WEAR 0 that TELLS 0 can't be MENDED, one of WEAR 9 can't be PRESSED, wherever it sits.
+        for (int n = 1; n <= 2; n++) {
+            duelIs("k00 b2001 g0801 g0801", 0, n, 0);
+            duelIs("k00 g0801 b2001 g0801", 0, n, 0);
+            duelIs("k00 g0801 g0801 b2001", 0, n, 0);
+            duelIs("k00 b2901 b2001", 0, n, -1);
+            duelIs("k00 b2001 b2901", 0, n, -1);
+            duelIs("k00 g0801 b2901 b2001 g0801", 0, n, 0);
+        }
         BearWitness x = Due.court("k01 b2001 m2501");
         x.turn(1);
         Edge.tells("33 a face to the WALL", x, () -> x.duel(0, 2), 1, 1);

@@ -19,6 +19,9 @@ public final class EdgeRowsTest {
         copyWhole();
         copyBeyond();
         copyInThisOrder();
+        rowOfSix();
+        layOfSix();
+        copyOfSix();
         meanCut();
         meanOfGreat();
         meanRefused();
@@ -308,6 +311,59 @@ public final class EdgeRowsTest {
         Edge.finds("6 copy(2, 0, 1, 0, 0), of none", y, () -> y.copy(2, 0, 1, 0, 0), Edge.NOTHING);
         Edge.finds("6 copy(0, 0, 2, 0, 0), of none", y, () -> y.copy(0, 0, 2, 0, 0), Edge.NOTHING);
         Edge.finds("6 copy(2, 0, 3, 0, 1), both", y, () -> y.copy(2, 0, 3, 0, 1), Edge.NOTHING);
+    }
+
+    // 2, 5 "A ROW is there", "A ROW is missing": the other five, all of them full, stay.
+    private static void rowOfSix() {
+        int[][] none = new int[4][];
+        for (int r = 0; r < 6; r++) {
+            int[][] rows = new int[6][];
+            BearWitness x = Edge.fullRows(rows);
+            Edge.holds("3 six full ROWS", x, rows, none);
+            for (int n : new int[] {40, 39, 1, 0, 40}) {
+                Due.is("2 row(" + r + ", " + n + ") of six", x.row(r, n), n);
+                rows[r] = new int[n];
+                Edge.holds("2 row(" + r + ", " + n + ") of six", x, rows, none);
+            }
+            Due.is("5 tear(" + r + ") of six", x.tear(r), 1);
+            rows[r] = null;
+            Edge.holds("5 tear(" + r + ") of six", x, rows, none);
+        }
+    }
+
+    // 3 "Place i of a ROW is v": no other place of any ROW.
+    private static void layOfSix() {
+        int[][] none = new int[4][];
+        int[][] rows = new int[6][];
+        BearWitness x = Edge.fullRows(rows);
+        for (int r = 0; r < 6; r++) {
+            for (int i : new int[] {0, 1, 20, 38, 39}) {
+                int was = rows[r][i];
+                int row = r;
+                Edge.tells("3 lay(" + r + ", " + i + ", 5) of six", x, () -> x.lay(row, i, 5), 1, was);
+                rows[r][i] = 5;
+                Edge.holds("3 lay(" + r + ", " + i + ", 5) of six", x, rows, none);
+            }
+        }
+    }
+
+    // 6 "n places of a ROW .. come to those of another one": from each to each, at the beginnings and the ends.
+    private static void copyOfSix() {
+        int[][] none = new int[4][];
+        int[][] pieces = {{0, 0, 40}, {39, 0, 1}, {0, 39, 1}, {39, 39, 1}, {10, 20, 20}, {1, 0, 39}, {0, 1, 39}};
+        for (int r = 0; r < 6; r++) {
+            for (int[] piece : pieces) {
+                int[][] rows = new int[6][];
+                BearWitness x = Edge.fullRows(rows);
+                for (int to = 5; to >= 0; to--) {
+                    String call = "6 copy(" + r + ", " + piece[0] + ", " + to + ", " + piece[1] + ", " + piece[2] + ") of six";
+                    Due.is(call, x.copy(r, piece[0], to, piece[1], piece[2]), 1);
+                    int[] taken = rows[r].clone();
+                    for (int d = 0; d < piece[2]; d++) rows[to][piece[1] + d] = taken[piece[0] + d];
+                    Edge.holds(call, x, rows, none);
+                }
+            }
+        }
     }
 
     private static void meanIs(int want, int... v) {

@@ -8,6 +8,8 @@ public final class EdgeTextsTest {
 
     public static void main(String[] args) {
         textSizes();
+        textOfFour();
+        putOfFour();
         textRefused();
         putCut();
         putPlaces();
@@ -21,6 +23,7 @@ public final class EdgeTextsTest {
         faultAtTheEnd();
         faultOfBytes();
         faultOfEachByte();
+        faultOfEachTwoBytes();
         faultOfEachPart();
         faultRefused();
         courtAnew();
@@ -51,6 +54,36 @@ public final class EdgeTextsTest {
         Edge.textIs("8 anew, empty", x, 1, "");
         Due.is("8 anew, greater", x.text(1, 4), 4);
         Edge.textIs("8 anew, greater", x, 1, "    ");
+    }
+
+    // 8 "A TEXT is there with n blanks": the other three, all of them full, stay.
+    private static void textOfFour() {
+        int[][] none = new int[6][];
+        for (int t = 0; t < 4; t++) {
+            int[][] texts = new int[4][];
+            BearWitness x = Edge.fullTexts(texts);
+            Edge.holds("9 four full TEXTS", x, none, texts);
+            for (int n : new int[] {60, 59, 1, 0, 60}) {
+                Due.is("8 text(" + t + ", " + n + ") of four", x.text(t, n), n);
+                texts[t] = new int[n];
+                for (int i = 0; i < n; i++) texts[t][i] = 32;
+                Edge.holds("8 text(" + t + ", " + n + ") of four", x, none, texts);
+            }
+        }
+    }
+
+    // 9 "Byte i of a TEXT is v": no other byte of any TEXT; ROWS neither.
+    private static void putOfFour() {
+        int[][] none = new int[6][];
+        int[][] texts = new int[4][];
+        BearWitness x = Edge.fullTexts(texts);
+        for (int t = 0; t < 4; t++) {
+            for (int i : new int[] {0, 1, 30, 58, 59}) {
+                Due.is("9 put(" + t + ", " + i + ", 7) of four", x.put(t, i, 7), texts[t][i] + 1000);
+                texts[t][i] = 7;
+                Edge.holds("9 put(" + t + ", " + i + ", 7) of four", x, none, texts);
+            }
+        }
     }
 
     // 8 "BAD: also n above 60; SIZE: below 0." (BAD ahead of a FINDING.)
@@ -315,6 +348,31 @@ public final class EdgeTextsTest {
                     if (b == 127 || b == 191) {
                         x = new BearWitness();
                         Due.write(x, 0, s);
+                    }
+                }
+            }
+        }
+    }
+
+    // Terms: "the first place at which it can't go on so": two bytes that follow one another, each of the telling ones.
+    private static void faultOfEachTwoBytes() {
+        char[] telling = " /01235679:;@K`abjklprz\u0000\u00b9\u00ff".toCharArray();
+        String[] texts = {"k63b2963 ", "k00 l1005p2059"};
+        for (String s : texts) {
+            for (int i = 0; i + 1 < s.length(); i++) {
+                for (char one : telling) {
+                    BearWitness x = new BearWitness();
+                    Due.write(x, 3, s);
+                    x.put(3, i, one);
+                    for (char two : telling) {
+                        x.put(3, i + 1, two);
+                        String other = s.substring(0, i) + one + two + s.substring(i + 2);
+                        Due.is("10 fault of \"" + other + "\"", x.fault(3), faultBy(other));
+                        String end = s.substring(0, i) + one + two;
+                        if (i + 2 == s.length() || two != telling[i % telling.length]) continue;
+                        BearWitness y = new BearWitness();
+                        Due.write(y, 1, end);
+                        Due.is("10 fault of \"" + end + "\"", y.fault(1), faultBy(end));
                     }
                 }
             }

@@ -13,6 +13,7 @@ public final class EdgeWhomTest {
         shakeFirstRow();
         shakeBelowNine();
         shakeComesToARow();
+        shakeLetsOtherRowsStay();
         shakeIsAside();
         shakeRefused();
         coverEdges();
@@ -172,6 +173,8 @@ public final class EdgeWhomTest {
         shakeIs("k01 b2801 b2801", 0, 3, 0, 1);
         shakeIs("k01 l0901 g0901", 0, 3);
         shakeIsNone("k01 b2901 b2401", 0, 3);
+        shakeIsNone("k00 b2901 b2001 g0001 g0001", 0, 15);
+        shakeIsNone("k00 g0001 b2901 b2001 g0001", 0, 15);
     }
 
     // 24 "comes to a ROW (anew)": any ROW, of as many ints.
@@ -191,6 +194,26 @@ public final class EdgeWhomTest {
             x.row(r, 40);
             Due.is("24 shake(1, 3, " + r + ")", x.shake(1, 3, r), 1);
             Edge.rowIs("24 shake(1, 3, " + r + "), anew", x, r, 0);
+        }
+    }
+
+    // 24 "comes to a ROW": no other one, though all of them be full.
+    private static void shakeLetsOtherRowsStay() {
+        for (int r = 0; r < 6; r++) {
+            BearWitness x = Due.court("k03 b2803 b2701");
+            for (int other = 0; other < 6; other++) {
+                x.row(other, 40);
+                x.lay(other, 0, 7);
+                x.lay(other, 39, 8);
+            }
+            Due.is("24 shake(0, 3, " + r + ") of six full", x.shake(0, 3, r), 3);
+            Edge.rowIs("24 shake(0, 3, " + r + ") of six full", x, r, 0, 1, 1);
+            for (int other = 0; other < 6; other++) {
+                int row = other;
+                if (row == r) continue;
+                Edge.tells("24 another one's first place", x, () -> x.at(row, 0), 1, 7);
+                Edge.tells("24 another one's last place", x, () -> x.at(row, 39), 1, 8);
+            }
         }
     }
 

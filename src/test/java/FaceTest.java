@@ -1,9 +1,14 @@
+import java.io.IOException;
 import java.lang.reflect.Constructor;
 import java.lang.reflect.Field;
 import java.lang.reflect.Method;
 import java.lang.reflect.Modifier;
+import java.nio.file.Files;
+import java.nio.file.Path;
 import java.util.Set;
 import java.util.TreeSet;
+import java.util.regex.Matcher;
+import java.util.regex.Pattern;
 
 /** The public face: all that the document shows, and nothing besides. */
 public final class FaceTest {
@@ -20,8 +25,9 @@ public final class FaceTest {
     };
     private static final String[] CONSTANTS = {"BAD -1", "FULL -2", "FINDING -3", "STATE -4", "SPENT -6", "NONE -9"};
 
-    public static void main(String[] args) throws IllegalAccessException {
+    public static void main(String[] args) throws IllegalAccessException, IOException {
         Due.is("a public final class", BearWitness.class.getModifiers(), Modifier.PUBLIC | Modifier.FINAL);
+        document();
         methods();
         constants();
         Constructor<?>[] all = BearWitness.class.getDeclaredConstructors();
@@ -38,6 +44,18 @@ public final class FaceTest {
     private static void same(String what, Set<String> got, Set<String> due) {
         for (String one : due) Due.is(what + " " + one + " is there", got.contains(one) ? 1 : 0, 1);
         for (String one : got) Due.is(what + " " + one + " is wanted", due.contains(one) ? 1 : 0, 1);
+    }
+
+    /** The face below is the document's. */
+    private static void document() throws IOException {
+        String doc = Files.readString(Path.of("../shared/DOC.md"));
+        Set<String> calls = new TreeSet<>();
+        Matcher call = Pattern.compile("public (int|long) (\\w+)\\(([^)]*)\\);").matcher(doc);
+        while (call.find()) calls.add(call.group(1) + " " + call.group(2) + "(" + call.group(3).replaceAll(" \\w+(?=,|$)", "") + ")");
+        same("the document's call", calls, new TreeSet<>(Set.of(FACE)));
+        Matcher list = Pattern.compile("public static final int (.*);").matcher(doc);
+        String constants = list.find() ? list.group(1).replace(" =", "") : "";
+        same("the document's constant", new TreeSet<>(Set.of(constants.split(", "))), new TreeSet<>(Set.of(CONSTANTS)));
     }
 
     private static void methods() {

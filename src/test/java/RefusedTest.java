@@ -72,73 +72,35 @@ public final class RefusedTest {
 
     public static void main(String[] args) {
         long[] due = life();
-        for (Call call : ALL) compare(call.name, life(call), due);
+        for (Call call : ALL) Life.same("behind " + call.name + ", refused", life(call), due);
         for (int from = 0; from < ALL.length; from++) {
             Call one = ALL[from];
             Call other = ALL[(from * 7 + 3) % ALL.length];
-            compare(one.name + ", " + other.name, life(one, other, one), due);
+            Life.same("behind " + one.name + ", " + other.name + ", refused", life(one, other, one), due);
         }
         long[] forty = atForty();
-        for (Call call : AT_FORTY) compare(call.name, atForty(call), forty);
+        for (Call call : AT_FORTY) Life.same("behind " + call.name + ", refused", atForty(call), forty);
         Due.end("RefusedTest");
-    }
-
-    private static void compare(String call, long[] got, long[] due) {
-        for (int d = 0; d < due.length; d++) Due.is("behind " + call + ", refused: " + d, got[d], due[d]);
-    }
-
-    /** ROW 0: UNLIKE, 1: SIZE, 2: empty, 3: no set by it, 4: missing; TEXT 1 a FAULT, 2 and 3 missing. */
-    private static BearWitness born() {
-        BearWitness x = Due.court("k05 b2807 l0901 p2004 m1507 g0107 r2107");
-        Due.write(x, 1, "k64b0000");
-        Due.row(x, 0, 0, 1, 47, 0);
-        Due.row(x, 1, 0, 1, 2);
-        x.row(2, 0);
-        Due.row(x, 3, 0, 1, 0, 0);
-        x.press(0);
-        x.turn(2);
-        x.keep(0);
-        x.eye(3);
-        x.mend(4);
-        x.turn(2);
-        x.keep(1);
-        x.press(5);
-        x.bear(0, 3);
-        x.odds(2, 5);
-        return x;
     }
 
     private static void refuse(BearWitness x, Call[] calls) {
         for (Call call : calls) Due.is(call.name, call.does.applyAsInt(x), call.want);
     }
 
-    /** What is told later, of all that there was. */
+    /** What is told later, of all that there was; what was told by asked(), upper(), lower(), too. */
     private static long[] life(Call... calls) {
-        BearWitness x = born();
+        BearWitness x = Life.born();
         refuse(x, calls);
-        long[] told = new long[53];
-        told[0] = x.digest();
-        told[1] = x.asked();
-        told[2] = x.upper();
-        told[3] = x.lower();
-        told[4] = x.undo(4);
-        told[5] = x.digest();
-        told[6] = x.on(1);
-        told[7] = x.digest();
-        told[8] = x.undo(1);
-        told[9] = x.digest();
-        told[10] = x.on(0);
-        told[11] = x.digest();
-        for (int d = 0; d < 20; d++) {
-            told[12 + 2 * d] = x.lots(1, 77 + d);
-            told[13 + 2 * d] = x.digest();
-        }
-        told[52] = x.undo(0);
-        return told;
+        long[] told = {x.asked(), x.upper(), x.lower()};
+        long[] later = Life.later(x);
+        long[] all = new long[told.length + later.length];
+        System.arraycopy(told, 0, all, 0, told.length);
+        System.arraycopy(later, 0, all, told.length, later.length);
+        return all;
     }
 
     private static long[] atForty(Call... calls) {
-        BearWitness x = born();
+        BearWitness x = Life.born();
         while (x.count(2) < 39) x.turn(1);
         x.mend(0);
         Due.is("forty DEEDS", x.count(2), 40);

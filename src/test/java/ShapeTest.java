@@ -24,13 +24,17 @@ import javax.tools.JavaCompiler;
 import javax.tools.StandardJavaFileManager;
 import javax.tools.ToolProvider;
 
-/** The rules 8 and 11 of LANGUAGE.md, by the program's tree as javac reads it: who calls whom, how deep. */
+/** The rules 4, 8 and 11 of LANGUAGE.md, by the program's tree as javac reads it: who calls whom, how deep. */
 public final class ShapeTest {
     private static final int DEEPEST = 8, MOST_PARAMETERS = 7, MOST_CLASSES = 12, MOST_FIELDS = 20, MOST_LINES = 60;
 
     /** For each method (and constructor) of the program: those that it calls. */
     private static final Map<Element, Set<Element>> CALLS = new HashMap<>();
     private static final Set<Element> RECURSIVE = new HashSet<>();
+    private static final Set<String> LIBRARY = Set.of(
+        "java.lang.Object.Object()", "java.lang.Integer.bitCount(int)", "java.lang.Long.bitCount(long)",
+        "java.lang.Math.max(int,int)", "java.lang.Math.min(int,int)",
+        "java.lang.System.arraycopy(java.lang.Object,int,java.lang.Object,int,int)");
     private static int classes = 0;
 
     public static void main(String[] args) throws IOException {
@@ -43,6 +47,7 @@ public final class ShapeTest {
             for (CompilationUnitTree unit : units) new Walk(Trees.instance(task)).scan(unit, null);
         }
         Due.is("11 classes, some twelve", classes <= MOST_CLASSES ? 0 : classes, 0);
+        library();
         recursion();
         depth();
         Due.end("ShapeTest");
@@ -107,6 +112,17 @@ public final class ShapeTest {
 
         private void calls(TreePath path) {
             if (method != null) CALLS.get(method).add(trees.getElement(path));
+        }
+    }
+
+    /** 4: of the library, what stands there alone. */
+    private static void library() {
+        for (Set<Element> called : CALLS.values()) {
+            for (Element one : called) {
+                String name = one.getEnclosingElement() + "." + one;
+                boolean own = name.startsWith("BearWitness");
+                Due.is("4 library: " + name, own || LIBRARY.contains(name) ? 1 : 0, 1);
+            }
         }
     }
 
